@@ -884,14 +884,19 @@ public final class LieBridges {
                 return;
             }
             for (int plank = 0; plank < PLANKS; plank++) {
-                int next = delta.across(plank, island);
-                int weight = at(weights, plank);
-                if (next != NOWHERE && weight != CLOSED && (seen >> next & 1) == 0) {
-                    put(trodden, depth, plank);
-                    long further = likeliest ? value * weight / TEN : value - weight;
-                    walk(delta, next, depth + 1, seen | 1 << next, further);
-                }
+                tread(delta, plank, island, depth, seen, value);
             }
+        }
+
+        private void tread(Delta delta, int plank, int island, int depth, int seen, long value) {
+            int next = delta.across(plank, island);
+            int weight = at(weights, plank);
+            if (next == NOWHERE || weight == CLOSED || (seen >> next & 1) == 1) {
+                return;
+            }
+            put(trodden, depth, plank);
+            long further = likeliest ? value * weight / TEN : value - weight;
+            walk(delta, next, depth + 1, seen | 1 << next, further);
         }
 
         // ways come in the order of their planks, so of equals the first one stays
