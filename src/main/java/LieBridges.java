@@ -710,7 +710,7 @@ public final class LieBridges {
 
         /** The island at the other end; NOWHERE: there is no such plank, or it is not beside. */
         int across(int plank, int island) {
-            if (!isPlank(plank)) {
+            if (!within(plank, 0, PLANKS - 1)) {
                 return NOWHERE;
             }
             if (at(lessers, plank) == island) {

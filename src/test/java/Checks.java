@@ -1,28 +1,43 @@
-import java.util.function.LongSupplier;
+import java.util.function.Supplier;
+import java.util.function.ToLongFunction;
 
 /** Counts the answers that are not the ones that are due. */
 final class Checks {
     private int asked;
     private int wrong;
+    private String sentence = "";
+
+    /** A test of its own for one sentence of the document. */
+    void test(String sentence, Runnable test) {
+        this.sentence = sentence + ": ";
+        int before = asked;
+        test.run();
+        if (asked == before) {
+            due("how much was asked", 0, 1);
+        }
+    }
 
     void due(String call, long got, long want) {
         asked++;
         if (got != want) {
             wrong++;
-            System.out.println(call + " answered " + got + ", due is " + want);
+            System.out.println(sentence + call + " answered " + got + ", due is " + want);
         }
     }
 
-    /** The call answers the refusal and changes nothing that can be seen. */
-    void refused(LieBridges x, String call, LongSupplier made, long want) {
-        String before = state(x);
-        due(call, made.getAsLong(), want);
-        String behind = state(x);
+    void same(String what, String got, String want) {
         asked++;
-        if (!before.equals(behind)) {
+        if (!got.equals(want)) {
             wrong++;
-            System.out.println(call + " was refused, but changed " + before + " to " + behind);
+            System.out.println(sentence + what + " is " + got + ", due is " + want);
         }
+    }
+
+    /** On an object made so the call answers the refusal, and leaves all that can be seen as it was. */
+    void refused(String call, Supplier<LieBridges> made, ToLongFunction<LieBridges> asks, long want) {
+        LieBridges x = made.get();
+        due(call, asks.applyAsLong(x), want);
+        same("what " + call + " leaves", stateAndImages(x), stateAndImages(made.get()));
     }
 
     /** Ends the run with exit code 1 if some answer was wrong, or none was asked for. */
@@ -56,6 +71,32 @@ final class Checks {
         }
     }
 
+    /** A new object with such trust, behind such a text. */
+    static LieBridges made(String pairs, String text) {
+        LieBridges x = new LieBridges();
+        trust(x, pairs);
+        play(x, text);
+        return x;
+    }
+
+    /** A new object with such a text on its pad. */
+    static LieBridges written(String text) {
+        LieBridges x = new LieBridges();
+        say(x, text);
+        return x;
+    }
+
+    /** A new object in which all trust all others. */
+    static LieBridges allTrust() {
+        LieBridges x = new LieBridges();
+        for (int person = 0; person < 6; person++) {
+            for (int other = 0; other < 6; other++) {
+                x.trust(person, other, true);
+            }
+        }
+        return x;
+    }
+
     static String beliefs(LieBridges x) {
         StringBuilder all = new StringBuilder();
         for (int plank = 0; plank < 6; plank++) {
@@ -80,6 +121,15 @@ final class Checks {
         }
         for (int i = -1; i < 3; i++) {
             all.append(' ').append(x.filled(i));
+        }
+        return all.toString();
+    }
+
+    /** The state, and what it becomes by either image: some 240 calls, with which an object has been used enough. */
+    static String stateAndImages(LieBridges x) {
+        StringBuilder all = new StringBuilder(state(x));
+        for (int n = 0; n < 2; n++) {
+            all.append(" image ").append(x.restore(n)).append(' ').append(state(x));
         }
         return all.toString();
     }

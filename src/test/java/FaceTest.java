@@ -38,7 +38,43 @@ public final class FaceTest {
         for (String word : LEFT_OUT) {
             checks.due("where '" + word + "' stands", source.indexOf(word), -1);
         }
+        measures(checks, source);
         checks.end("FaceTest");
+    }
+
+    /** Rules 3, 5 and 11 of LANGUAGE.md, as far as they can be counted. */
+    private static void measures(Checks checks, String source) {
+        Class<?>[] inside = LieBridges.class.getDeclaredClasses();
+        checks.due("at most twelve classes", inside.length < 12 ? 1 : 0, 1);
+        fewEnough(checks, LieBridges.class);
+        for (Class<?> one : inside) {
+            fewEnough(checks, one);
+        }
+        checks.due("signs 1 to 127 alone", source.chars().filter(sign -> sign < 1 || sign > 127).count(), 0);
+        String[] lines = source.split("\\R");
+        int start = 0;
+        for (int line = 0; line < lines.length; line++) {
+            if (lines[line].matches("( {4}| {8})(?!if|for|while|switch|return)\\w.*\\) \\{")) {
+                start = line;
+            }
+            if (lines[line].matches("( {4}| {8})\\}")) {
+                checks.due("a method of sixty lines at most ends at line " + (line + 1),
+                    line - start <= 60 ? 1 : 0, 1);
+            }
+        }
+    }
+
+    private static void fewEnough(Checks checks, Class<?> one) {
+        int own = 0;
+        for (Field field : one.getDeclaredFields()) {
+            int kind = field.getModifiers();
+            own += Modifier.isStatic(kind) ? 0 : 1;
+            checks.due("static and not final: " + field, Modifier.isStatic(kind) && !Modifier.isFinal(kind) ? 1 : 0, 0);
+        }
+        checks.due("at most twenty fields in " + one, own <= 20 ? 1 : 0, 1);
+        for (Method method : one.getDeclaredMethods()) {
+            checks.due("at most seven parameters: " + method, method.getParameterCount() <= 7 ? 1 : 0, 1);
+        }
     }
 
     private static TreeSet<String> shown() {

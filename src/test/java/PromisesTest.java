@@ -42,11 +42,7 @@ public final class PromisesTest {
     }
 
     private static void beliefs(String when, LieBridges x, String want) {
-        String got = Checks.beliefs(x);
-        if (!got.equals(want)) {
-            System.out.println(when + ": beliefs are " + got + ", due are " + want);
-        }
-        checks.due("beliefs, " + when, got.equals(want) ? 1 : 0, 1);
+        checks.same("beliefs, " + when, Checks.beliefs(x), want);
     }
 
     /** B, C and D trust A; B believes plank 0 for 3 days, C for 2, and plank 1 bears C. */
@@ -94,7 +90,7 @@ public final class PromisesTest {
         int[][] wrong = {{-1, 0, 1, 0}, {6, 0, 1, 0}, {0, -1, 1, 0}, {0, 6, 1, 0}, {0, 0, -1, 0}, {0, 0, 6, 0},
             {0, 0, 1, -1}, {0, 0, 1, 6}, {0, 3, 3, 0}, {LEAST, 0, 1, 0}, {0, MOST, 1, 0}};
         for (int[] w : wrong) {
-            checks.refused(x, "plank " + w[0] + w[1] + w[2] + w[3], () -> x.plank(w[0], w[1], w[2], w[3]), UNKNOWN);
+            due("plank " + w[0] + w[1] + w[2] + w[3], x.plank(w[0], w[1], w[2], w[3]), UNKNOWN);
         }
     }
 
@@ -112,7 +108,7 @@ public final class PromisesTest {
         due("a belief outlives the trust", x.bears(0, 1), 3);
         int[][] wrong = {{0, 0}, {5, 5}, {-1, 0}, {6, 0}, {0, -1}, {0, 6}, {MOST, 1}, {1, LEAST}};
         for (int[] w : wrong) {
-            checks.refused(x, "trust " + w[0] + w[1], () -> x.trust(w[0], w[1], true), UNKNOWN);
+            due("trust " + w[0] + w[1], x.trust(w[0], w[1], true), UNKNOWN);
         }
     }
 
@@ -133,7 +129,7 @@ public final class PromisesTest {
         due("and may tell it still", x.vain(-1), 0);
         int[][] wrong = {{-1, 0}, {6, 0}, {0, -1}, {0, 6}, {MOST, 1}, {1, LEAST}};
         for (int[] w : wrong) {
-            checks.refused(x, "know " + w[0] + w[1], () -> x.know(w[0], w[1], true), UNKNOWN);
+            due("know " + w[0] + w[1], x.know(w[0], w[1], true), UNKNOWN);
         }
     }
 
@@ -146,7 +142,7 @@ public final class PromisesTest {
         Checks.play(x, "AD0");
         due("a new belief", x.bears(0, 3), 1);
         for (int v : new int[] {0, 10, -1, LEAST, MOST}) {
-            checks.refused(x, "fade " + v, () -> x.fade(v), OUTSIDE);
+            due("fade " + v, x.fade(v), OUTSIDE);
         }
         due("fade as it was", x.fade(3), 1);
     }
@@ -154,15 +150,15 @@ public final class PromisesTest {
     private static void promise6Say() {
         LieBridges x = new LieBridges();
         for (int sign : new int[] {32, 127, -1, 0, LEAST, MOST}) {
-            checks.refused(x, "say " + sign, () -> x.say(sign), OUTSIDE);
+            due("say " + sign, x.say(sign), OUTSIDE);
         }
         due("say(33)", x.say(33), 1);
         due("say(126)", x.say(126), 2);
         for (int many = 3; many <= 60; many++) {
             due("say, the " + many + "th", x.say('.'), many);
         }
-        checks.refused(x, "say, the 61st", () -> x.say('.'), FULL);
-        checks.refused(x, "say, OUTSIDE ahead of FULL", () -> x.say(32), OUTSIDE);
+        due("say, the 61st", x.say('.'), FULL);
+        due("say, OUTSIDE ahead of FULL", x.say(32), OUTSIDE);
         due("told(0)", x.told(0), 60);
     }
 
@@ -182,11 +178,9 @@ public final class PromisesTest {
     }
 
     private static void promise8Fault() {
-        LieBridges x = new LieBridges();
         String[] sound = {"", ".", "AB0", "FA5", "?A0", "AB-0", "?F-5", "AB0.CD-1?E2..", "?B0?B0?B0", "..."};
         for (String text : sound) {
-            Checks.write(x, text);
-            due("fault of " + text, x.fault(), NONE);
+            due("fault of " + text, Checks.written(text).fault(), NONE);
         }
         String[] faulty = {"A", "AB", "AB-", "?", "?A", "?A-", "AB0C", "?B0?B0?B0?", "?B0?B0?B0AB-?", "AA", "FF0",
             "A?0", "??0", "AB6", "AB--", "AB.", "A.", "..G", "a", "aB0", "Ab0", "ABA", "-", "0", "AB-6", "ABC0",
@@ -195,10 +189,9 @@ public final class PromisesTest {
             1, 1, 2, 3, 2, 1, 2, 0, 0, 1, 2, 0, 0, 3, 2,
             1, 0, 0, 1, 2, 2, 3, 3, 0, 0, 2, 3};
         for (int i = 0; i < faulty.length; i++) {
-            Checks.write(x, faulty[i]);
-            due("fault of " + faulty[i], x.fault(), place[i]);
+            due("fault of " + faulty[i], Checks.written(faulty[i]).fault(), place[i]);
         }
-        x.wipe();
+        LieBridges x = new LieBridges();
         for (int i = 0; i < 59; i++) {
             x.say('.');
         }
@@ -231,13 +224,13 @@ public final class PromisesTest {
         Checks.write(x, "BA0");
         due("who laid it, though trusting", x.vain(-1), 1);
         Checks.write(x, "AB");
-        checks.refused(x, "vain, a fault", () -> x.vain(-1), NO);
-        checks.refused(x, "vain below -1, a fault", () -> x.vain(-2), NO);
+        due("vain, a fault", x.vain(-1), NO);
+        due("vain below -1, a fault", x.vain(-2), NO);
         Checks.write(x, "?B0");
-        checks.refused(x, "vain, a ?", () -> x.vain(-1), STATE);
-        checks.refused(x, "vain below -1, a ?", () -> x.vain(-2), STATE);
+        due("vain, a ?", x.vain(-1), STATE);
+        due("vain below -1, a ?", x.vain(-2), STATE);
         Checks.write(x, "?B0A");
-        checks.refused(x, "vain, NO ahead of STATE", () -> x.vain(-1), NO);
+        due("vain, NO ahead of STATE", x.vain(-1), NO);
     }
 
     private static void promise10Done() {
@@ -261,13 +254,13 @@ public final class PromisesTest {
         due("done, a denial by one without belief", x.done(), 1);
         beliefs("behind a denial", x, NO_BELIEFS);
         Checks.write(x, "AB0A");
-        checks.refused(x, "done, a fault", x::done, NO);
+        due("done, a fault", x.done(), NO);
         due("the text stays", x.told(0), 4);
         Checks.write(x, "AB0?C0");
-        checks.refused(x, "done, a ?", x::done, STATE);
+        due("done, a ?", x.done(), STATE);
         due("the text stays", x.told(0), 6);
         Checks.write(x, "?C0A");
-        checks.refused(x, "done, NO ahead of STATE", x::done, NO);
+        due("done, NO ahead of STATE", x.done(), NO);
     }
 
     private static void promise11Bears() {
@@ -283,7 +276,7 @@ public final class PromisesTest {
         due("now, not behind the text", x.bears(0, -1), 2);
         int[][] wrong = {{-1, 0}, {6, 0}, {0, -2}, {0, 6}, {LEAST, -1}, {MOST, -1}, {0, LEAST}, {0, MOST}};
         for (int[] w : wrong) {
-            checks.refused(x, "bears " + w[0] + " " + w[1], () -> x.bears(w[0], w[1]), UNKNOWN);
+            due("bears " + w[0] + " " + w[1], x.bears(w[0], w[1]), UNKNOWN);
         }
     }
 
@@ -303,11 +296,11 @@ public final class PromisesTest {
         int[][] wrong = {{-1, 0}, {6, 0}, {0, -2}, {0, 6}, {LEAST, -1}, {0, MOST}};
         Checks.say(x, "?B0A");
         for (int[] w : wrong) {
-            checks.refused(x, "behind " + w[0] + " " + w[1], () -> x.behind(w[0], w[1]), UNKNOWN);
+            due("behind " + w[0] + " " + w[1], x.behind(w[0], w[1]), UNKNOWN);
         }
-        checks.refused(x, "behind, NO ahead of STATE", () -> x.behind(0, -1), NO);
+        due("behind, NO ahead of STATE", x.behind(0, -1), NO);
         Checks.write(x, "?B0");
-        checks.refused(x, "behind, a ?", () -> x.behind(0, -1), STATE);
+        due("behind, a ?", x.behind(0, -1), STATE);
     }
 
     private static void promise13Falls() {
@@ -327,18 +320,18 @@ public final class PromisesTest {
         due("no planks", x.falls(4, 0, 0, 6, 0), NONE);
         due("no planks, the island", x.falls(4, 0, 0, 6, 1), 4);
         for (int island : new int[] {-1, 6, LEAST, MOST}) {
-            checks.refused(x, "falls from " + island, () -> x.falls(island, -1, 9, 9, 9), UNKNOWN);
+            due("falls from " + island, x.falls(island, -1, 9, 9, 9), UNKNOWN);
         }
         int[][] outside = {{0, 1, 0, 0}, {0, 1, 7, 0}, {0, 1, 1, -1}, {0, 1, 1, 2}, {0, -1, 1, 0}, {0, 7, 1, 0},
             {-1, 1, 1, 0}, {10, 1, 1, 0}, {100, 2, 1, 0}, {1, 0, 1, 0}, {1000000, 6, 1, 0}, {MOST, 6, 1, 0},
             {LEAST, 6, 1, 0}, {0, LEAST, 1, 0}, {0, MOST, 1, 0}, {9, 1, 0, 0}, {9, 1, 1, 2}};
         for (int[] w : outside) {
-            checks.refused(x, "falls " + w[0] + " " + w[1] + " " + w[2] + " " + w[3],
-                () -> x.falls(0, w[0], w[1], w[2], w[3]), OUTSIDE);
+            due("falls " + w[0] + " " + w[1] + " " + w[2] + " " + w[3],
+                x.falls(0, w[0], w[1], w[2], w[3]), OUTSIDE);
         }
         int[][] no = {{6, 1}, {9, 1}, {2, 1}, {2, 2}, {16, 2}, {3, 2}, {999999, 6}, {15, 6}};
         for (int[] w : no) {
-            checks.refused(x, "falls " + w[0] + " " + w[1], () -> x.falls(0, w[0], w[1], 6, 0), NO);
+            due("falls " + w[0] + " " + w[1], x.falls(0, w[0], w[1], 6, 0), NO);
         }
     }
 
@@ -389,10 +382,10 @@ public final class PromisesTest {
 
         int[][] unknown = {{-1, 0}, {6, 0}, {0, -1}, {0, 6}, {LEAST, 0}, {0, MOST}};
         for (int[] w : unknown) {
-            checks.refused(x, "tellings " + w[0] + w[1], () -> x.tellings(w[0], w[1], 7, -1), UNKNOWN);
+            due("tellings " + w[0] + w[1], x.tellings(w[0], w[1], 7, -1), UNKNOWN);
         }
         for (int n : new int[] {0, 7, -1, LEAST, MOST}) {
-            checks.refused(x, "tellings for " + n, () -> x.tellings(0, 0, n, 0), OUTSIDE);
+            due("tellings for " + n, x.tellings(0, 0, n, 0), OUTSIDE);
         }
     }
 
@@ -423,10 +416,10 @@ public final class PromisesTest {
         due("FADE no longer counts", y.stands(1, 0, 1), 7);
         int[][] unknown = {{-1, 0}, {6, 0}, {0, -1}, {0, 6}, {LEAST, LEAST}, {0, MOST}};
         for (int[] w : unknown) {
-            checks.refused(x, "stands " + w[0] + w[1], () -> x.stands(w[0], w[1], 0), UNKNOWN);
+            due("stands " + w[0] + w[1], x.stands(w[0], w[1], 0), UNKNOWN);
         }
         for (int n : new int[] {0, 7, -1, LEAST, MOST}) {
-            checks.refused(x, "stands for " + n, () -> x.stands(0, 0, n), OUTSIDE);
+            due("stands for " + n, x.stands(0, 0, n), OUTSIDE);
         }
     }
 
@@ -453,7 +446,7 @@ public final class PromisesTest {
         due("A hears a denial, too", y.word(0), 45);
         due("and one ends", y.word(1), 1);
         for (int what : new int[] {-1, 2, LEAST, MOST}) {
-            checks.refused(x, "word " + what, () -> x.word(what), OUTSIDE);
+            due("word " + what, x.word(what), OUTSIDE);
         }
     }
 
@@ -485,12 +478,12 @@ public final class PromisesTest {
         LieBridges z = new LieBridges();
         Checks.trust(z, "BA");
         due("A has neither laid plank 4 nor heard of it", z.rumour(4, 1), NONE);
-        checks.refused(x, "rumour, UNKNOWN first", () -> x.rumour(6, 0), UNKNOWN);
+        due("rumour, UNKNOWN first", x.rumour(6, 0), UNKNOWN);
         for (int plank : new int[] {-1, 6, LEAST, MOST}) {
-            checks.refused(x, "rumour of " + plank, () -> x.rumour(plank, 1), UNKNOWN);
+            due("rumour of " + plank, x.rumour(plank, 1), UNKNOWN);
         }
         for (int m : new int[] {0, 7, -1, LEAST, MOST}) {
-            checks.refused(x, "rumour for " + m, () -> x.rumour(0, m), OUTSIDE);
+            due("rumour for " + m, x.rumour(0, m), OUTSIDE);
         }
     }
 
@@ -513,10 +506,10 @@ public final class PromisesTest {
         int[][] unknown = {{-1, 0, 1}, {6, 0, 1}, {0, -1, 1}, {0, 6, 1}, {0, 0, -1}, {0, 0, 6}, {0, 2, 2},
             {LEAST, 0, 1}, {0, MOST, 1}};
         for (int[] w : unknown) {
-            checks.refused(x, "odds " + w[0] + w[1] + w[2], () -> x.odds(w[0], w[1], w[2], 2), UNKNOWN);
+            due("odds " + w[0] + w[1] + w[2], x.odds(w[0], w[1], w[2], 2), UNKNOWN);
         }
         for (int first : new int[] {-1, 2, LEAST, MOST}) {
-            checks.refused(x, "odds, first " + first, () -> x.odds(0, 0, 1, first), OUTSIDE);
+            due("odds, first " + first, x.odds(0, 0, 1, first), OUTSIDE);
         }
     }
 
@@ -527,12 +520,12 @@ public final class PromisesTest {
         due("tenths(2, 7)", x.tenths(2, 7), 0);
         due("told(42)", x.told(42), 7);
         due("told(41)", x.told(41), 5);
-        checks.refused(x, "tenths, UNKNOWN first", () -> x.tenths(6, 11), UNKNOWN);
+        due("tenths, UNKNOWN first", x.tenths(6, 11), UNKNOWN);
         for (int plank : new int[] {-1, 6, LEAST, MOST}) {
-            checks.refused(x, "tenths of " + plank, () -> x.tenths(plank, 1), UNKNOWN);
+            due("tenths of " + plank, x.tenths(plank, 1), UNKNOWN);
         }
         for (int v : new int[] {-1, 11, LEAST, MOST}) {
-            checks.refused(x, "tenths to " + v, () -> x.tenths(2, v), OUTSIDE);
+            due("tenths to " + v, x.tenths(2, v), OUTSIDE);
         }
     }
 
@@ -576,7 +569,7 @@ public final class PromisesTest {
         way("of two between the same, the better one", x, 2, 1, 1);
         int[][] unknown = {{-1, 0}, {6, 0}, {0, -1}, {0, 6}, {LEAST, LEAST}, {0, MOST}};
         for (int[] w : unknown) {
-            checks.refused(x, "safe " + w[0] + w[1], () -> x.safe(w[0], w[1], 0), UNKNOWN);
+            due("safe " + w[0] + w[1], x.safe(w[0], w[1], 0), UNKNOWN);
         }
     }
 
@@ -605,10 +598,10 @@ public final class PromisesTest {
         fraction("no way", x, 0, 4, 0, 1);
         int[][] unknown = {{-1, 0}, {6, 0}, {0, -1}, {0, 6}, {LEAST, LEAST}, {0, MOST}};
         for (int[] w : unknown) {
-            checks.refused(x, "chance " + w[0] + w[1], () -> x.chance(w[0], w[1], 2), LieBridges.LOST - 1);
+            due("chance " + w[0] + w[1], x.chance(w[0], w[1], 2), LieBridges.LOST - 1);
         }
         for (int part : new int[] {-1, 2, LEAST, MOST}) {
-            checks.refused(x, "chance, part " + part, () -> x.chance(0, 0, part), LieBridges.LOST - 2);
+            due("chance, part " + part, x.chance(0, 0, part), LieBridges.LOST - 2);
         }
     }
 
@@ -621,18 +614,18 @@ public final class PromisesTest {
         due("seen(1, 0)", x.seen(1, 0), 3);
         due("a sight does not hold", x.filled(-1), 0);
         due("seen(5, 6)", x.seen(5, 6), 4);
-        checks.refused(x, "seen, UNKNOWN first", () -> x.seen(6, 7), UNKNOWN);
+        due("seen, UNKNOWN first", x.seen(6, 7), UNKNOWN);
         for (int plank : new int[] {-1, 6, LEAST, MOST}) {
-            checks.refused(x, "seen of " + plank, () -> x.seen(plank, 0), UNKNOWN);
+            due("seen of " + plank, x.seen(plank, 0), UNKNOWN);
         }
         for (int v : new int[] {-1, 7, LEAST, MOST}) {
-            checks.refused(x, "seen of so many: " + v, () -> x.seen(0, v), OUTSIDE);
+            due("seen of so many: " + v, x.seen(0, v), OUTSIDE);
         }
         due("the fifth", x.seen(0, 0), 5);
         due("the sixth", x.seen(0, 0), 6);
-        checks.refused(x, "the seventh", () -> x.seen(0, 0), FULL);
-        checks.refused(x, "the seventh, OUTSIDE ahead of FULL", () -> x.seen(0, 7), OUTSIDE);
-        checks.refused(x, "the seventh, UNKNOWN ahead of FULL", () -> x.seen(-1, 0), UNKNOWN);
+        due("the seventh", x.seen(0, 0), FULL);
+        due("the seventh, OUTSIDE ahead of FULL", x.seen(0, 7), OUTSIDE);
+        due("the seventh, UNKNOWN ahead of FULL", x.seen(-1, 0), UNKNOWN);
     }
 
     private static void promise23Forget() {
@@ -698,8 +691,8 @@ public final class PromisesTest {
         due("two believe: no way", x.filled(0), NONE);
         beliefs("filled() changes nothing", x, NO_BELIEFS);
         Checks.write(x, "?B0?");
-        checks.refused(x, "filled, a fault", () -> x.filled(-1), NO);
-        checks.refused(x, "filled, a fault", () -> x.filled(-2), NO);
+        due("filled, a fault", x.filled(-1), NO);
+        due("filled, a fault", x.filled(-2), NO);
     }
 
     private static void promise25Year() {
@@ -733,11 +726,11 @@ public final class PromisesTest {
         due("some tell themselves", oneself > 0 ? 1 : 0, 1);
         due("to oneself is in vain", y.year(9999, 99, -1) <= 99 - oneself ? 1 : 0, 1);
         for (int plank : new int[] {-2, 6, LEAST, MOST}) {
-            checks.refused(x, "year of " + plank, () -> x.year(-1, 0, plank), UNKNOWN);
+            due("year of " + plank, x.year(-1, 0, plank), UNKNOWN);
         }
         int[][] outside = {{-1, 1}, {10000, 1}, {0, 0}, {0, 100}, {0, -1}, {LEAST, 1}, {MOST, 1}, {0, LEAST}, {0, MOST}};
         for (int[] w : outside) {
-            checks.refused(x, "year " + w[0] + " " + w[1], () -> x.year(w[0], w[1], -1), OUTSIDE);
+            due("year " + w[0] + " " + w[1], x.year(w[0], w[1], -1), OUTSIDE);
         }
     }
 
@@ -777,16 +770,16 @@ public final class PromisesTest {
         due("restore(0)", x.restore(0), 1);
         due("the later image", x.told(1), 1);
         for (int n : new int[] {-1, 2, LEAST, MOST}) {
-            checks.refused(x, "image " + n, () -> x.image(n), OUTSIDE);
+            due("image " + n, x.image(n), OUTSIDE);
         }
     }
 
     private static void promise27Restore() {
         LieBridges x = full();
         String before = Checks.state(x);
-        checks.refused(x, "nothing kept", () -> x.restore(0), STATE);
+        due("nothing kept", x.restore(0), STATE);
         x.image(1);
-        checks.refused(x, "nothing kept in the other one", () -> x.restore(0), STATE);
+        due("nothing kept in the other one", x.restore(0), STATE);
         change(x);
         String changed = Checks.state(x);
         due("it has changed", changed.equals(before) ? 1 : 0, 0);
@@ -816,7 +809,7 @@ public final class PromisesTest {
         x.restore(1);
         due("the sight's number is back", x.filled(-1), 1);
         for (int n : new int[] {-1, 2, LEAST, MOST}) {
-            checks.refused(x, "restore " + n, () -> x.restore(n), OUTSIDE);
+            due("restore " + n, x.restore(n), OUTSIDE);
         }
     }
 
@@ -847,7 +840,7 @@ public final class PromisesTest {
         due("told(40)", x.told(40), 0);
         int[] outside = {-1, 3, 5, 6, 9, 16, 19, 26, 29, 36, 39, 46, 49, 50, 55, 60, 110, -10, -11, LEAST, MOST};
         for (int what : outside) {
-            checks.refused(x, "told " + what, () -> x.told(what), OUTSIDE);
+            due("told " + what, x.told(what), OUTSIDE);
         }
     }
 }
