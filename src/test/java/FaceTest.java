@@ -17,6 +17,13 @@ public final class FaceTest {
         "int tenths(int,int)", "int safe(int,int,int)", "long chance(int,int,int)", "int seen(int,int)",
         "int forget()", "int filled(int)", "int year(int,int,int)", "int image(int)", "int restore(int)",
         "int told(int)"};
+    // the calls in the document's order, each group behind the heading that the interface says ahead of it
+    private static final String[] ORDER = {
+        "---- 1 deltas, texts", "plank", "trust", "know", "fade", "say", "wipe", "fault",
+        "---- 2 days", "vain", "done", "bears", "behind", "falls",
+        "---- 3 ways, words", "tellings", "stands", "word", "rumour", "odds",
+        "---- 4 chances, what is not told, years", "tenths", "safe", "chance", "seen", "forget", "filled", "year",
+        "image", "restore", "told"};
     private static final String[] LEFT_OUT = {"import ", "package ", "Exact", "catch", "finally", "synchronized",
         "assert", "->", "::", "System.", "Random", "Thread", "instanceof", "throw ", "goto", "protected"};
 
@@ -38,8 +45,20 @@ public final class FaceTest {
         for (String word : LEFT_OUT) {
             checks.due("where '" + word + "' stands", source.indexOf(word), -1);
         }
+        headings(checks, source);
         measures(checks, source);
         checks.end("FaceTest");
+    }
+
+    private static void headings(Checks checks, String source) {
+        int place = 0;
+        for (String next : ORDER) {
+            String line = next.startsWith("-") ? "\n    // " + next + "\n" : " " + next + "(";
+            String start = next.startsWith("-") ? line : "\n    public " + (next.equals("chance") ? "long" : "int") + line;
+            int found = source.indexOf(start, place);
+            checks.due("'" + next + "' stands behind the one ahead", found >= 0 ? 1 : 0, 1);
+            place = found >= 0 ? found + start.length() - 1 : place;
+        }
     }
 
     /** Rules 3, 5 and 11 of LANGUAGE.md, as far as they can be counted. */

@@ -1023,6 +1023,7 @@ public final class TermsTest {
     }
 
     private static void lastDay() {
+        // NOTES.md: no state reaches a later day than the 12th, so the last of the 30 changes no answer
         due("the 12th day", lateRumour().rumour(0, 5), 12);
         due("never", fresh().rumour(0, 1), NONE);
         due("never two at once, day by day", fading(1, "BA CB", "").rumour(0, 2), NONE);
